@@ -1,3 +1,6 @@
+import java.util.function.Consumer;
+import java.util.function.Supplier;
+
 /** Compares answers with those that are due, and counts the wrong ones. */
 final class Due {
     static final String RANGE = "IllegalArgumentException";
@@ -36,10 +39,11 @@ final class Due {
         same(call, thrownBy(made), due);
     }
 
-    /** A call that throws must leave the ship as it was. */
-    void failsAndKeeps(DangerousGoods ship, String call, String due, Call made) {
+    /** A call that throws must leave the ship as it was; a new ship each time keeps it under 512 calls. */
+    void failsAndKeeps(Supplier<DangerousGoods> newShip, String call, String due, Consumer<DangerousGoods> made) {
+        DangerousGoods ship = newShip.get();
         String before = Snapshot.of(ship);
-        fails(call, due, made);
+        fails(call, due, () -> made.accept(ship));
         same(call + " then the state", Snapshot.of(ship), before);
     }
 

@@ -1,7 +1,11 @@
+import java.util.function.Supplier;
+
 /** Promises 6 to 13: add, setQuantity, put, goods, placeOf, isLimited, isExcepted, need. */
 public final class GoodsTest {
     private static final int NONE = DangerousGoods.NONE;
     private static final int[] NO_GOODS_OF_TWO = {-1, 2, 15, 16, Integer.MIN_VALUE, Integer.MAX_VALUE};
+
+    private static final Supplier<DangerousGoods> TWO = GoodsTest::shipWithTwo;
 
     private static DangerousGoods shipWithTwo() {
         DangerousGoods ship = new DangerousGoods();
@@ -13,6 +17,14 @@ public final class GoodsTest {
         return ship;
     }
 
+    private static DangerousGoods shipWithSixteen() {
+        DangerousGoods ship = new DangerousGoods();
+        for (int goods = 0; goods < 16; goods++) {
+            ship.add(1 + goods % 9, NONE, 1 + goods);
+        }
+        return ship;
+    }
+
     private static void promise6Add(Due due) {
         DangerousGoods ship = new DangerousGoods();
         for (int goods = 0; goods < 16; goods++) {
@@ -21,24 +33,28 @@ public final class GoodsTest {
             due.same("6: ashore", ship.placeOf(goods), NONE);
         }
         due.same("9: goods() of 16", ship.goods(), 16);
-        due.failsAndKeeps(ship, "6: a 17th", Due.STATE, () -> ship.add(1, NONE, 1));
-        due.failsAndKeeps(ship, "6: a 17th of class 0", Due.RANGE, () -> ship.add(0, NONE, 1));
-        due.failsAndKeeps(ship, "6: a 17th, class twice", Due.RANGE, () -> ship.add(1, 1, 1));
-        due.failsAndKeeps(ship, "6: a 17th, none of it", Due.RANGE, () -> ship.add(1, NONE, 0));
+    }
+
+    private static void promise6Seventeenth(Due due) {
+        Supplier<DangerousGoods> full = GoodsTest::shipWithSixteen;
+        due.failsAndKeeps(full, "6: a 17th", Due.STATE, ship -> ship.add(1, NONE, 1));
+        due.failsAndKeeps(full, "6: a 17th of class 0", Due.RANGE, ship -> ship.add(0, NONE, 1));
+        due.failsAndKeeps(full, "6: a 17th, class twice", Due.RANGE, ship -> ship.add(1, 1, 1));
+        due.failsAndKeeps(full, "6: a 17th, none of it", Due.RANGE, ship -> ship.add(1, NONE, 0));
     }
 
     private static void promise6Wrong(Due due) {
-        DangerousGoods ship = shipWithTwo();
         for (int wrong : new int[] {0, 10, -1, -2, Integer.MIN_VALUE, Integer.MAX_VALUE}) {
-            due.failsAndKeeps(ship, "6: class " + wrong, Due.RANGE, () -> ship.add(wrong, NONE, 1));
+            due.failsAndKeeps(TWO, "6: class " + wrong, Due.RANGE, ship -> ship.add(wrong, NONE, 1));
             if (wrong != NONE) {
-                due.failsAndKeeps(ship, "6: subsidiary " + wrong, Due.RANGE, () -> ship.add(1, wrong, 1));
+                due.failsAndKeeps(TWO, "6: subsidiary " + wrong, Due.RANGE, ship -> ship.add(1, wrong, 1));
             }
         }
-        due.failsAndKeeps(ship, "6: class twice", Due.RANGE, () -> ship.add(9, 9, 1));
+        due.failsAndKeeps(TWO, "6: class twice", Due.RANGE, ship -> ship.add(9, 9, 1));
         for (int wrong : new int[] {0, -1, 10001, Integer.MIN_VALUE, Integer.MAX_VALUE}) {
-            due.failsAndKeeps(ship, "6: quantity " + wrong, Due.RANGE, () -> ship.add(1, NONE, wrong));
+            due.failsAndKeeps(TWO, "6: quantity " + wrong, Due.RANGE, ship -> ship.add(1, NONE, wrong));
         }
+        DangerousGoods ship = shipWithTwo();
         due.same("6: the greatest of all", ship.add(9, 8, 10000), 2);
         due.same("6: the least of all", ship.add(1, 2, 1), 3);
     }
@@ -53,15 +69,13 @@ public final class GoodsTest {
     }
 
     private static void promise7Wrong(Due due) {
-        DangerousGoods ship = shipWithTwo();
         for (int wrong : NO_GOODS_OF_TWO) {
-            due.failsAndKeeps(ship, "7: goods " + wrong, Due.NO_GOODS, () -> ship.setQuantity(wrong, 1));
-            due.failsAndKeeps(ship, "7: all wrong " + wrong, Due.NO_GOODS, () -> ship.setQuantity(wrong, 0));
+            due.failsAndKeeps(TWO, "7: goods " + wrong, Due.NO_GOODS, ship -> ship.setQuantity(wrong, 1));
+            due.failsAndKeeps(TWO, "7: all wrong " + wrong, Due.NO_GOODS, ship -> ship.setQuantity(wrong, 0));
         }
         for (int wrong : new int[] {0, -1, 10001, Integer.MIN_VALUE, Integer.MAX_VALUE}) {
-            due.failsAndKeeps(ship, "7: quantity " + wrong, Due.RANGE, () -> ship.setQuantity(0, wrong));
+            due.failsAndKeeps(TWO, "7: quantity " + wrong, Due.RANGE, ship -> ship.setQuantity(0, wrong));
         }
-        due.same("7: unchanged", ship.setQuantity(0, 3), 10);
     }
 
     private static void promise8PutAnd10PlaceOf(Due due) {
@@ -80,14 +94,14 @@ public final class GoodsTest {
     }
 
     private static void promise8And10Wrong(Due due) {
-        DangerousGoods ship = shipWithTwo();
+        DangerousGoods two = shipWithTwo();
         for (int wrong : NO_GOODS_OF_TWO) {
-            due.failsAndKeeps(ship, "8: goods " + wrong, Due.NO_GOODS, () -> ship.put(wrong, 0));
-            due.failsAndKeeps(ship, "8: all wrong " + wrong, Due.NO_GOODS, () -> ship.put(wrong, 48));
-            due.fails("10: goods " + wrong, Due.NO_GOODS, () -> ship.placeOf(wrong));
+            due.failsAndKeeps(TWO, "8: goods " + wrong, Due.NO_GOODS, ship -> ship.put(wrong, 0));
+            due.failsAndKeeps(TWO, "8: all wrong " + wrong, Due.NO_GOODS, ship -> ship.put(wrong, 48));
+            due.fails("10: goods " + wrong, Due.NO_GOODS, () -> two.placeOf(wrong));
         }
         for (int wrong : new int[] {-2, 48, Integer.MIN_VALUE, Integer.MAX_VALUE}) {
-            due.failsAndKeeps(ship, "8: place " + wrong, Due.RANGE, () -> ship.put(1, wrong));
+            due.failsAndKeeps(TWO, "8: place " + wrong, Due.RANGE, ship -> ship.put(1, wrong));
         }
     }
 
@@ -172,6 +186,28 @@ public final class GoodsTest {
         bothNeed(due, ship, "of class 6 in both", 2);
     }
 
+    private static void tellAll(DangerousGoods ship, int distance) {
+        for (int one = 1; one <= 9; one++) {
+            for (int other = one; other <= 9; other++) {
+                ship.setDistance(one, other, distance);
+            }
+        }
+    }
+
+    /** Of two goods without subsidiary classes only one distance of the table counts. */
+    private static void promise13NoSubsidiary(Due due) {
+        for (int one = 1; one <= 9; one++) {
+            for (int other = 1; other <= 9; other++) {
+                DangerousGoods ship = new DangerousGoods();
+                ship.add(one, NONE, 1);
+                ship.add(other, NONE, 1);
+                tellAll(ship, 4);
+                ship.setDistance(one, other, 1);
+                bothNeed(due, ship, "of classes " + one + " and " + other, 1);
+            }
+        }
+    }
+
     private static void promise13Quantities(Due due) {
         DangerousGoods ship = new DangerousGoods();
         ship.setDistance(1, 2, 3);
@@ -211,6 +247,7 @@ public final class GoodsTest {
     public static void main(String[] args) {
         Due due = new Due();
         promise6Add(due);
+        promise6Seventeenth(due);
         promise6Wrong(due);
         promise7SetQuantity(due);
         promise7Wrong(due);
@@ -222,6 +259,7 @@ public final class GoodsTest {
         promise11And12Wrong(due);
         promise13EachOfFourClasses(due);
         promise13SameClass(due);
+        promise13NoSubsidiary(due);
         promise13Quantities(due);
         promise13Wrong(due);
         due.end("GoodsTest");

@@ -1,3 +1,5 @@
+import java.util.function.Supplier;
+
 /** Promises 14 to 22: areInBreach, isMisplaced, breaches, inBreachWith, isClean, canPut, placeFor, fewest, leaving. */
 public final class PlanTest {
     private static final int NONE = DangerousGoods.NONE;
@@ -112,6 +114,8 @@ public final class PlanTest {
         due.same("18: misplaced", ship.isClean(), false);
         ship.put(1, NONE);
         due.same("18: the misplaced ashore", ship.isClean(), true);
+        ship.bar(1, 0, true);
+        due.same("18: goods 0 alone, misplaced", ship.isClean(), false);
     }
 
     private static void promise19CanPut(Due due) {
@@ -137,14 +141,14 @@ public final class PlanTest {
     }
 
     private static void promise19And20Wrong(Due due) {
-        DangerousGoods ship = shipWith(2);
+        Supplier<DangerousGoods> two = () -> shipWith(2);
         for (int wrong : NO_GOODS_OF_TWO) {
-            due.failsAndKeeps(ship, "19: goods " + wrong, Due.NO_GOODS, () -> ship.canPut(wrong, 0));
-            due.failsAndKeeps(ship, "19: all wrong " + wrong, Due.NO_GOODS, () -> ship.canPut(wrong, 48));
-            due.failsAndKeeps(ship, "20: goods " + wrong, Due.NO_GOODS, () -> ship.placeFor(wrong));
+            due.failsAndKeeps(two, "19: goods " + wrong, Due.NO_GOODS, ship -> ship.canPut(wrong, 0));
+            due.failsAndKeeps(two, "19: all wrong " + wrong, Due.NO_GOODS, ship -> ship.canPut(wrong, 48));
+            due.failsAndKeeps(two, "20: goods " + wrong, Due.NO_GOODS, ship -> ship.placeFor(wrong));
         }
         for (int wrong : new int[] {NONE, 48, Integer.MIN_VALUE, Integer.MAX_VALUE}) {
-            due.failsAndKeeps(ship, "19: place " + wrong, Due.RANGE, () -> ship.canPut(0, wrong));
+            due.failsAndKeeps(two, "19: place " + wrong, Due.RANGE, ship -> ship.canPut(0, wrong));
         }
     }
 
@@ -177,6 +181,13 @@ public final class PlanTest {
         due.same("20: the first of the hold", ship.placeFor(1), 37);
         ship.put(1, 37);
         due.same("20: its own place", ship.placeFor(1), 37);
+        DangerousGoods between = shipWith(3);
+        between.setDistance(1, 2, 4);
+        between.setDistance(1, 3, 4);
+        between.put(1, 12);
+        due.same("20: the last hold", between.placeFor(0), 36);
+        between.put(2, 24);
+        due.same("20: far enough only behind the last hold", between.placeFor(0), NONE);
         DangerousGoods full = shipWith(3);
         full.setDistance(1, 2, 4);
         full.setDistance(2, 3, 1);
@@ -258,6 +269,19 @@ public final class PlanTest {
         due(due, ship, "a star of two paths", 6);
     }
 
+    /** The goods in the middle of a star leave alone, whatever their number is. */
+    private static void promise21And22Star(Due due) {
+        for (int middle = 0; middle < 16; middle++) {
+            DangerousGoods ship = new DangerousGoods();
+            ship.setDistance(1, 2, 3);
+            for (int goods = 0; goods < 16; goods++) {
+                ship.add(goods == middle ? 1 : 2, NONE, 100);
+                ship.put(goods, 13);
+            }
+            due(due, ship, "a star round " + middle, 1 << middle);
+        }
+    }
+
     public static void main(String[] args) {
         Due due = new Due();
         promise14EachDistance(due);
@@ -274,6 +298,7 @@ public final class PlanTest {
         promise21And22Small(due);
         promise21And22Large(due);
         promise21And22NotGreedy(due);
+        promise21And22Star(due);
         due.end("PlanTest");
     }
 }

@@ -1,3 +1,5 @@
+import java.util.function.Supplier;
+
 /** Promises 1 to 5: a new object, setDistance, setQuantities, bar, distance. */
 public final class RulesTest {
     private static final int[] NO_CLASSES = {0, 10, -1, Integer.MIN_VALUE, Integer.MAX_VALUE};
@@ -76,20 +78,27 @@ public final class RulesTest {
         due.same("3: still another class", ship.isLimited(others), false);
     }
 
-    private static void promise3Wrong(Due due) {
+    /** Goods just within and just above both quantities, so that a change of one of them shows. */
+    private static DangerousGoods shipWithQuantities() {
         DangerousGoods ship = new DangerousGoods();
-        ship.add(1, DangerousGoods.NONE, 5);
-        ship.add(1, DangerousGoods.NONE, 7);
-        ship.setQuantities(1, 7, 5);
-        for (int wrong : NO_CLASSES) {
-            due.failsAndKeeps(ship, "3: class " + wrong, Due.RANGE, () -> ship.setQuantities(wrong, 1, 1));
+        for (int quantity = 5; quantity <= 8; quantity++) {
+            ship.add(1, DangerousGoods.NONE, quantity);
         }
-        due.failsAndKeeps(ship, "3: limited -1", Due.RANGE, () -> ship.setQuantities(1, -1, 0));
-        due.failsAndKeeps(ship, "3: both -1", Due.RANGE, () -> ship.setQuantities(1, -1, -1));
-        due.failsAndKeeps(ship, "3: limited 10001", Due.RANGE, () -> ship.setQuantities(1, 10001, 0));
-        due.failsAndKeeps(ship, "3: excepted -1", Due.RANGE, () -> ship.setQuantities(1, 1, -1));
-        due.failsAndKeeps(ship, "3: excepted above", Due.RANGE, () -> ship.setQuantities(1, 6, 7));
-        due.failsAndKeeps(ship, "3: excepted above 0", Due.RANGE, () -> ship.setQuantities(1, 0, 1));
+        ship.setQuantities(1, 7, 5);
+        return ship;
+    }
+
+    private static void promise3Wrong(Due due) {
+        Supplier<DangerousGoods> made = RulesTest::shipWithQuantities;
+        for (int wrong : NO_CLASSES) {
+            due.failsAndKeeps(made, "3: class " + wrong, Due.RANGE, ship -> ship.setQuantities(wrong, 1, 1));
+        }
+        due.failsAndKeeps(made, "3: limited -1", Due.RANGE, ship -> ship.setQuantities(1, -1, 0));
+        due.failsAndKeeps(made, "3: both -1", Due.RANGE, ship -> ship.setQuantities(1, -1, -1));
+        due.failsAndKeeps(made, "3: limited 10001", Due.RANGE, ship -> ship.setQuantities(1, 10001, 0));
+        due.failsAndKeeps(made, "3: excepted -1", Due.RANGE, ship -> ship.setQuantities(1, 1, -1));
+        due.failsAndKeeps(made, "3: excepted above", Due.RANGE, ship -> ship.setQuantities(1, 6, 7));
+        due.failsAndKeeps(made, "3: excepted above 0", Due.RANGE, ship -> ship.setQuantities(1, 0, 1));
     }
 
     private static void promise4Bar(Due due) {

@@ -1,4 +1,4 @@
-/** What can be read from a ship without changing it, as a text. */
+/** The state of a ship as a text; what no call tells is read by setting it, and set back at once. */
 final class Snapshot {
     private Snapshot() {
     }
@@ -12,14 +12,14 @@ final class Snapshot {
             text.append(" | ").append(ship.placeOf(goods)).append(' ').append(ship.isLimited(goods));
             text.append(' ').append(ship.isExcepted(goods)).append(' ').append(ship.isMisplaced(goods));
             text.append(' ').append(ship.inBreachWith(goods)).append(' ').append(ship.placeFor(goods));
-            for (int other = 0; other < goods; other++) {
-                text.append(' ').append(ship.need(goods, other));
-            }
+            int quantity = ship.setQuantity(goods, 1);
+            ship.setQuantity(goods, quantity);
+            text.append(' ').append(quantity);
         }
         return text.toString();
     }
 
-    /** Reads the rules too, by setting each value and setting back what was there. */
+    /** The rules, 198 calls: too many to be read with the goods. */
     static String ofRules(DangerousGoods ship) {
         StringBuilder text = new StringBuilder();
         for (int one = 1; one <= 9; one++) {
