@@ -11,11 +11,13 @@ public final class DangerousGoods {
     private static final int MOST_GOODS = 16;
     private static final int MOST_QUANTITY = 10000;
 
-    // Rows by class have one element more than there are classes, so that a class is its own index.
-    private final int[] table = new int[(CLASSES + 1) * (CLASSES + 1)];
-    private final int[] limitedQuantities = new int[CLASSES + 1];
-    private final int[] exceptedQuantities = new int[CLASSES + 1];
-    private final boolean[] barred = new boolean[(CLASSES + 1) * DECKS];
+    // One element more than there are classes, so that a class is its own index.
+    private static final int CLASS_ROW = CLASSES + 1;
+
+    private final int[] table = new int[CLASS_ROW * CLASS_ROW];
+    private final int[] limitedQuantities = new int[CLASS_ROW];
+    private final int[] exceptedQuantities = new int[CLASS_ROW];
+    private final boolean[] barred = new boolean[CLASS_ROW * DECKS];
 
     private final int[] classes = new int[MOST_GOODS];
     private final int[] subsidiaries = new int[MOST_GOODS];
@@ -35,9 +37,9 @@ public final class DangerousGoods {
         checkClass(one);
         checkClass(other);
         checkRange(distance, 0, GREATEST_DISTANCE);
-        int before = table[cell(one, other)];
-        table[cell(one, other)] = distance;
-        table[cell(other, one)] = distance;
+        int before = tableDistance(one, other);
+        table[one * CLASS_ROW + other] = distance;
+        table[other * CLASS_ROW + one] = distance;
         return before;
     }
 
@@ -232,10 +234,6 @@ public final class DangerousGoods {
 
     // ---- distances
 
-    private static int cell(int one, int other) {
-        return one * (CLASSES + 1) + other;
-    }
-
     private static int holdOf(int place) {
         return place / PLACES_PER_HOLD;
     }
@@ -267,7 +265,7 @@ public final class DangerousGoods {
         if (one == NONE || other == NONE) {
             return 0;
         }
-        return table[cell(one, other)];
+        return table[one * CLASS_ROW + other];
     }
 
     private int greatestTableDistance(int goods, int other) {
@@ -292,7 +290,7 @@ public final class DangerousGoods {
     }
 
     private boolean areLimited(int goods) {
-        return !areExcepted(goods) && areWithin(goods, limitedQuantities);
+        return !areWithin(goods, exceptedQuantities) && areWithin(goods, limitedQuantities);
     }
 
     private int needOf(int goods, int other) {
