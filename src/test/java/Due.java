@@ -1,53 +1,43 @@
-import java.util.function.Consumer;
-import java.util.function.Supplier;
-
-/** Compares answers with those that are due, and counts the wrong ones. */
+/** Compares answers with those that are due, and tells the wrong ones by what they are about. */
 final class Due {
     static final String RANGE = "IllegalArgumentException";
     static final String NO_GOODS = "IndexOutOfBoundsException";
     static final String STATE = "IllegalStateException";
 
-    interface Call {
-        void run();
-    }
-
+    private final String about;
     private int compared = 0;
     private int wrong = 0;
 
+    Due(String about) {
+        this.about = about;
+    }
+
     void same(String call, long answer, long due) {
-        compared++;
-        if (answer != due) {
-            wrong++;
-            System.out.println(call + " answered " + answer + ", due is " + due);
-        }
+        same(call, Long.toString(answer), Long.toString(due));
     }
 
     void same(String call, boolean answer, boolean due) {
-        same(call, answer ? 1 : 0, due ? 1 : 0);
+        same(call, Boolean.toString(answer), Boolean.toString(due));
     }
 
     void same(String call, String answer, String due) {
         compared++;
         if (!answer.equals(due)) {
             wrong++;
-            System.out.println(call + " answered " + answer + ", due is " + due);
+            System.out.println(about + " | " + call + " answered " + answer + ", due is " + due);
         }
     }
 
     /** The exception has to be of the named class itself, not of one below it. */
-    void fails(String call, String due, Call made) {
+    void fails(String call, String due, Runnable made) {
         same(call, thrownBy(made), due);
     }
 
-    /** A call that throws must leave the ship as it was; a new ship each time keeps it under 512 calls. */
-    void failsAndKeeps(Supplier<DangerousGoods> newShip, String call, String due, Consumer<DangerousGoods> made) {
-        DangerousGoods ship = newShip.get();
-        String before = Snapshot.of(ship);
-        fails(call, due, () -> made.accept(ship));
-        same(call + " then the state", Snapshot.of(ship), before);
+    void passes(String call, Runnable made) {
+        fails(call, "nothing", made);
     }
 
-    private static String thrownBy(Call made) {
+    private static String thrownBy(Runnable made) {
         try {
             made.run();
             return "nothing";
@@ -56,8 +46,16 @@ final class Due {
         }
     }
 
-    void end(String test) {
-        System.out.println(test + ": " + compared + " compared, " + wrong + " wrong");
+    int compared() {
+        return compared;
+    }
+
+    int wrong() {
+        return wrong;
+    }
+
+    void end() {
+        System.out.println(about + ": " + compared + " compared, " + wrong + " wrong");
         if (wrong != 0 || compared == 0) {
             System.exit(1);
         }

@@ -80,7 +80,7 @@ public final class FaceTest {
     }
 
     public static void main(String[] args) {
-        Due due = new Due();
+        Due due = new Due("FaceTest");
         due.same("the class", DangerousGoods.class.getModifiers(), Modifier.PUBLIC | Modifier.FINAL);
         Constructor<?>[] constructors = DangerousGoods.class.getDeclaredConstructors();
         due.same("constructors", constructors.length, 1);
@@ -88,6 +88,6 @@ public final class FaceTest {
         due.same("its parameters", constructors[0].getParameterCount(), 0);
         methods(due);
         fields(due);
-        due.end("FaceTest");
+        due.end();
     }
 }

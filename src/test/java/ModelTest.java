@@ -144,22 +144,11 @@ public final class ModelTest {
         }
     }
 
-    private static void everyDistance(Due due) {
-        DangerousGoods ship = new DangerousGoods();
-        Model model = new Model();
-        for (int place = 0; place < 48; place++) {
-            for (int other = 0; other < 48; other++) {
-                due.same("distance " + place + " " + other, ship.distance(place, other), model.distance(place, other));
-            }
-        }
-    }
-
     public static void main(String[] args) {
-        Due due = new Due();
-        everyDistance(due);
+        Due due = new Due("ModelTest");
         for (int run = 0; run < RUNS; run++) {
             new ModelTest(due, run).play();
         }
-        due.end("ModelTest");
+        due.end();
     }
 }
