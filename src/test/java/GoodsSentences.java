@@ -153,7 +153,7 @@ final class GoodsSentences {
                 refusals.on(kind, due, "add with another", Due.STATE, x -> x.add(9, 8, 10000));
             } else {
                 DangerousGoods ship = kind.make();
-                while (ship.goods() < 15) {
+                for (int goods = kind.count; goods < 15; goods++) {
                     ship.add(1, NONE, 1);
                 }
                 due.same("the 16th on " + kind, ship.add(2, 3, 4), 15);
