@@ -1,5 +1,8 @@
-/** Compares answers with those that are due, and tells the wrong ones by what they are about. */
-final class Due {
+/**
+ * Compares answers with those that are due, and tells the wrong ones by what they are about. What the example of
+ * README.md is made to call is public: ReadmeTest loads it by a loader of its own.
+ */
+public final class Due {
     static final String RANGE = "IllegalArgumentException";
     static final String NO_GOODS = "IndexOutOfBoundsException";
     static final String STATE = "IllegalStateException";
@@ -12,11 +15,11 @@ final class Due {
         this.about = about;
     }
 
-    void same(String call, long answer, long due) {
+    public void same(String call, long answer, long due) {
         same(call, Long.toString(answer), Long.toString(due));
     }
 
-    void same(String call, boolean answer, boolean due) {
+    public void same(String call, boolean answer, boolean due) {
         same(call, Boolean.toString(answer), Boolean.toString(due));
     }
 
@@ -29,7 +32,7 @@ final class Due {
     }
 
     /** The exception has to be of the named class itself, not of one below it. */
-    void fails(String call, String due, Runnable made) {
+    public void fails(String call, String due, Runnable made) {
         same(call, thrownBy(made), due);
     }
 
